@@ -29,6 +29,7 @@ public final class LinkTest {
         timers(check);
         magicOfEachRequest(check);
         manyFrames(check);
+        moreFramesThanAreKept(check);
         check.end();
     }
 
@@ -264,5 +265,19 @@ public final class LinkTest {
         check.same("15: all are under way", x.underWay(0), 1700);
         check.same("7: the first one", x.deliver(0), OptionLine.REQUEST);
         check.same("15: one less", x.underWay(0), 1699);
+    }
+
+    /** Behind the 512th call the answers are free, but calls go on to end, and the row stays a row. */
+    private static void moreFramesThanAreKept(Check check) {
+        OptionLine x = new OptionLine();
+        for (int round = 0; round < 600; round++) {
+            x.open(0);
+            x.pass(50);
+        }
+        int kept = x.underWay(0);
+        for (int frame = 0; frame < kept; frame++) {
+            check.same("free: a kept frame", x.lose(0), OptionLine.REQUEST);
+        }
+        Script.goOn(check, x, "free: behind the last one", "lose 0 = STATE; underWay 0 = 0; open 0; lose 0 = REQUEST");
     }
 }
