@@ -538,8 +538,7 @@ public final class OptionLine {
         private boolean advanceFromFirst(int packet) {
             int gap = firstNotCome(packet);
             if (gap == starts[packet + 1]) {
-                givenPackets[givenCount] = packet;
-                givenCount++;
+                give(packet);
                 nextNumber = gap;
                 return true;
             }
@@ -548,6 +547,14 @@ public final class OptionLine {
             }
             nextNumber = gap + 1;
             return true;
+        }
+
+        private void give(int packet) {
+            // No packet is given twice, so there is room; yet nothing else on the way here looks at the index.
+            if (givenCount < givenPackets.length) {
+                givenPackets[givenCount] = packet;
+                givenCount++;
+            }
         }
 
         /** Answers the number behind the packet if all its pieces have come. */

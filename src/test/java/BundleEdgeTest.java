@@ -198,6 +198,24 @@ public final class BundleEdgeTest {
         }
         loseAllButTheLastOfLineZero(check, fours, 240);
         Script.goOn(check, fours, what + "240 numbers by one piece", "next = 0; given = 0; come 0 = 1; next = 240; givenAt 0 = 59");
+        mostChanges(check);
+    }
+
+    /** The first piece of each packet is lost, so that each number is passed by a change of its own. */
+    private static void mostChanges(Check check) {
+        OptionLine x = new OptionLine();
+        for (int packet = 0; packet < 60; packet++) {
+            x.send(4);
+        }
+        for (int piece = 0; piece < 240; piece++) {
+            if (piece % 4 == 0 || piece % 3 == 0 && piece < 237) {
+                check.same("the lost piece", x.drop(piece % 3), piece);
+            } else if (piece != 237) {
+                check.same("nothing is given by " + piece, x.come(piece % 3), 0);
+            }
+        }
+        Script.goOn(check, x, "'as long as it changes something': 240 changes by one piece", "next = 0; come 0 = 0; next = 240",
+                "given = 0");
     }
 
     private static void loseAllButTheLastOfLineZero(Check check, OptionLine x, int pieces) {
